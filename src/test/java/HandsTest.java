@@ -174,6 +174,15 @@ public final class HandsTest {
         faultOf("hold 5 0;", 1, 7);
         faultOf("hold5x;", 1, 5);
         faultOf("hold 1;hold 0;\t", 2, 12);
+        for (char last : "azAZ".toCharArray()) {
+            faultOf("open" + last + ";", 1, 0);
+        }
+        for (char last : "@[`{/:09".toCharArray()) {
+            faultOf("open" + last + ";", 1, 4);
+        }
+        faultOf("hold 1/;", 1, 6);
+        faultOf("hold 1:;", 1, 6);
+        faultOf("hold 1009;", 2, 5);
     }
 
     private static void faultsOfDepthAndCount() {

@@ -37,14 +37,12 @@ public final class SeenTest {
         x.see(1, 1);
         x.see(1, 2);
         x.see(1, 0);
-        int[] ones = {2, 1, 1, 0};
         for (int time = 0; time < 4; time++) {
             DUE.is("look", x.look(time), true);
             DUE.is("the look", x.about(6), time);
-            DUE.is("orders at " + time, x.orders(2, 1, -1, 0), time == 0 ? 2 : time == 1 ? 2 : 0);
+            DUE.is("orders at " + time, x.orders(2, 1, -1, 0), new int[] {2, 2, 0, 0}[time]);
             DUE.is("orders at " + time, x.orders(3, 1, -1, 0), new int[] {4, 2, 0, 2}[time]);
         }
-        DUE.is("of other points", ones.length, 4);
         DUE.is("below 0", x.look(-1), false);
         DUE.is("beyond", x.look(4), false);
         DUE.is("not moved", x.about(6), 3);

@@ -8,6 +8,7 @@ public final class SheetsTest {
         torques();
         torquesAreCut();
         restsAndStays();
+        level();
         restsOfNothing();
         snaps();
         snapsOfNothing();
@@ -74,6 +75,12 @@ public final class SheetsTest {
             rests = checkRests(x, push);
             DUE.is("one or three at " + push, rests, push > -4000 && push < 4000 ? 3 : 1);
         }
+        for (int a = -180; a <= 180; a += 12) {
+            int push = x.torque(0, a);
+            if (push >= -1000000 && push <= 1000000) {
+                checkRests(x, push);
+            }
+        }
         x.sheet(2, 0, 0, 0, 0);
         DUE.is("180 by its torque", x.rests(1, 360, 0), 180);
         DUE.is("180 stays", x.stays(1, 360, 180), 1);
@@ -90,6 +97,25 @@ public final class SheetsTest {
         x.sheet(1, 180, 100, 180, -180);
         DUE.is("no torque at 180", x.torque(2, 180), 0);
         DUE.is("180 rests", x.stays(2, 0, 180), x.torque(2, 179) < 0 ? 1 : 0);
+    }
+
+    /** Two like torques side by side: both rest, neither stays. */
+    private static void level() {
+        CreasedPaper x = new CreasedPaper(2);
+        x.sheet(1, 0, 1, -95, -95);
+        int[] torques = {-160, -159, -159, -157};
+        for (int i = 0; i < 4; i++) {
+            DUE.is("torque", x.torque(0, -34 + i), torques[i]);
+        }
+        DUE.is("the lower one", x.stays(0, -159, -33), 0);
+        DUE.is("the higher one", x.stays(0, -159, -32), 0);
+        DUE.is("ahead", x.stays(0, -160, -34), 1);
+        DUE.is("behind", x.stays(0, -158, -32), 1);
+        DUE.is("far off from below", x.snap(0, -34, -160, -159, 0), -115);
+        DUE.is("a snap", x.snap(0, -34, -160, -159, 1), 1);
+        DUE.is("its push", x.snap(0, -34, -160, -159, 2), -159);
+        DUE.is("far off from above", x.snap(0, -32, -158, -159, 0), -115);
+        checkRests(x, -159);
     }
 
     private static int checkRests(CreasedPaper x, int push) {

@@ -170,6 +170,26 @@ public final class StripTest {
         DUE.is("a place that stays counts too", x.fold(7, true), -2);
         x.rules(0, 0, 100, 3);
         DUE.is("three are not more than three", x.fold(7, true), 1);
+        thickLooksAtTheMirror();
+    }
+
+    /** Six cells by LEFT at 1 and RIGHT at 5: PLACES 1 and 4 have two LAYERS, 2 and 3 one. */
+    private static void thickLooksAtTheMirror() {
+        int[] line = {2, 3, 4};
+        int[] tallest = {3, 4, 3};
+        for (int i = 0; i < 3; i++) {
+            CreasedPaper x = new CreasedPaper(6);
+            x.fold(1, false);
+            x.fold(5, true);
+            x.rules(0, 0, 100, tallest[i] - 1);
+            DUE.is("right would be " + tallest[i], x.fold(line[i], true), -2);
+            DUE.is("left would be " + tallest[i], x.fold(line[i], false), -2);
+            x.rules(0, 0, 100, tallest[i]);
+            x.image();
+            DUE.is("right", x.fold(line[i], true) > 0, true);
+            x.back();
+            DUE.is("left", x.fold(line[i], false) > 0, true);
+        }
     }
 
     private static void wearGrowsWithLayers() {
@@ -202,6 +222,40 @@ public final class StripTest {
         DUE.is("torn at strong", z.crease(10, 5), 1);
         DUE.is("torn points", z.about(4), 1);
         DUE.is("others keep", z.crease(11, 5), 0);
+        CreasedPaper seven = new CreasedPaper(18);
+        for (int line = 1; line <= 6; line++) {
+            seven.fold(line, false);
+        }
+        seven.fold(7, false);
+        DUE.is("seven are cut to none", seven.crease(7, 2), 1);
+        CreasedPaper all = new CreasedPaper(40);
+        for (int line = 1; line <= 39; line++) {
+            all.fold(line, false);
+            DUE.is("through " + line, all.crease(line, 2), 1 + line / 8);
+        }
+        wearToTheFirstStrong();
+    }
+
+    private static void wearToTheFirstStrong() {
+        CreasedPaper x = new CreasedPaper(2);
+        for (int wear = 1; wear < 100; wear++) {
+            x.fold(1, true);
+            x.open();
+        }
+        DUE.is("99", x.crease(1, 2), 99);
+        DUE.is("not torn", x.crease(1, 5), 0);
+        x.rules(100, 10, 50, 40);
+        DUE.is("not by rules alone", x.crease(1, 5), 0);
+        x.rules(100, 10, 101, 40);
+        x.back();
+        for (int wear = 1; wear < 100; wear++) {
+            x.fold(1, true);
+            x.open();
+        }
+        DUE.is("the hundredth", x.fold(1, true), 1);
+        DUE.is("torn", x.crease(1, 5), 1);
+        x.open();
+        DUE.is("no more", x.fold(1, true), -3);
     }
 
     private static void signsAreThoseOfTheLastFold() {
