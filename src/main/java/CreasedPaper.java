@@ -1245,9 +1245,10 @@ public final class CreasedPaper {
             if (done >= folds) {
                 return countIfFitting();
             }
-            for (int line = 1; line < cells; line++) {
-                if (strips[done].hasBothSides(line)
-                        && (goOnBy(done, line, true) || goOnBy(done, line, false))) {
+            int first = Math.max(1, strips[done].lowestPlace() + 1);
+            int last = Math.min(cells - 1, strips[done].highestPlace());
+            for (int line = first; line <= last; line++) {
+                if (goOnBy(done, line, true) || goOnBy(done, line, false)) {
                     return true;
                 }
             }
