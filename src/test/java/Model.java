@@ -6,7 +6,7 @@ import java.util.TreeMap;
 
 /**
  * The document once more, written as plainly as can be and without regard to room or speed:
- * piles are lists, texts are unrolled, ways and orders are tried out one and all.
+ * piles are lists, texts are unrolled, orders are tried out one and all (PanelsTest does so for ways).
  */
 final class Model {
     /** All that an image holds. */
