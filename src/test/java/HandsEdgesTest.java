@@ -38,6 +38,7 @@ public final class HandsEdgesTest {
         nothingIsDone();
         faultWithout();
         faultAheadOfAny();
+        textsAreReadAnew();
         faultOthers();
         faultOfTheDo();
         DUE.end();
@@ -524,6 +525,24 @@ public final class HandsEdgesTest {
         CreasedPaper y = new CreasedPaper(6);
         y.hands();
         DUE.is("an empty one was read", y.fault(0), 0);
+    }
+
+    /** Nothing of a text that had a FAULT, in the midst of its brackets, is left for the next one. */
+    private static void textsAreReadAnew() {
+        DUE.sentence("Of the latest text that was read");
+        String[] broken = {FOUR_OPEN, FOUR_OPEN + "again 1(", "again 2(" + Texts.times("open;", 40), "fold 3",
+            "again 50"};
+        for (String text : broken) {
+            CreasedPaper x = new CreasedPaper(6);
+            DUE.is("broken", Texts.done(x, text), -1);
+            DUE.is("a text without brackets", Texts.done(x, Texts.times("open;", 40)), 40);
+            DUE.is("broken", Texts.done(x, text), -1);
+            DUE.is("a bracket that closes none", Texts.done(x, ")"), -1);
+            DUE.is("its fault", x.fault(0), 1);
+            DUE.is("its place", x.fault(1), 0);
+            DUE.is("broken", Texts.done(x, text), -1);
+            DUE.is("four that are open", Texts.done(x, FOUR_OPEN + "open;))))"), 1);
+        }
     }
 
     private static void faultOthers() {

@@ -346,6 +346,9 @@ public final class SheetsEdgesTest {
         CreasedPaper y = withSheet(1, 0, 50, 60, -60);
         pushed(y, -36, 4120, 4121, 69, 1, 4121);
         pushed(y, 35, -4119, -4120, -70, 1, -4120);
+        // All the way from 180 to -180.
+        CreasedPaper z = withSheet(4, -24, 84, -180, 180);
+        pushed(z, 180, 816, 817, -180, 1, 817);
     }
 
     private static void severalSnaps() {

@@ -16,6 +16,7 @@ public final class StripEdgesTest {
         leftMoves();
         comersLieOnTop();
         comersToAnEmptyPlace();
+        farPlaces();
         creasedPointsAreAtTheLine();
         signs();
         howManyWereCreased();
@@ -214,6 +215,38 @@ public final class StripEdgesTest {
         isCell(y, 3, 4, 1, 0);
     }
 
+    /** PLACES below 0 and beyond L - 1 are places like others: for LAYERS, THICK and WEAR. */
+    private static void farPlaces() {
+        DUE.sentence("each CELL in a PLACE x of p or above goes to PLACE 2 p - 1 - x; of LEFT: each in a PLACE below p"
+                + " does. .. they lie on those that are there and stay");
+        CreasedPaper x = new CreasedPaper(40);
+        x.fold(1, true);
+        CreasedPaper y = new CreasedPaper(40);
+        y.fold(39, false);
+        for (int i = 1; i <= 7; i++) {
+            x.fold(-38 + i, false);
+            DUE.is("piled up below 0", x.layers(-38 + i), 1 + i);
+            y.fold(78 - i, true);
+            DUE.is("piled up beyond the strip", y.layers(77 - i), 1 + i);
+        }
+        // Each FOLD turns the pile over, onto one CELL more.
+        int[] below = {32, 34, 36, 38, 39, 37, 35, 33};
+        int[] beyond = {7, 5, 3, 1, 0, 2, 4, 6};
+        for (int layer = 0; layer < 8; layer++) {
+            isCell(x, below[layer], -31, layer, layer < 4 ? 0 : 1);
+            isCell(y, beyond[layer], 70, layer, layer < 4 ? 0 : 1);
+        }
+        x.fold(-30, true);
+        DUE.is("wear through eight", x.crease(32, 2), 2);
+        y.fold(70, false);
+        DUE.is("wear through eight", y.crease(8, 2), 2);
+        x.back();
+        x.rules(100, 10, 100, 3);
+        x.fold(1, true);
+        x.fold(-19, true);
+        DUE.is("two below 0 are four", x.fold(-29, true), -2);
+    }
+
     private static void creasedPointsAreAtTheLine() {
         DUE.sentence("A FOLD CREASES each POINT between CELLS u and u + 1 of which one was in PLACE p - 1 and"
                 + " one in p");
@@ -250,6 +283,9 @@ public final class StripEdgesTest {
             DUE.is("face down", y.crease(1, 0), 2);
             DUE.is("face up at first", y.crease(2, 0), 1);
             DUE.is("face up", y.crease(3, 0), 1);
+            y.open();
+            y.fold(1, right);
+            DUE.is("creased anew, face up now", y.crease(1, 0), 1);
         }
     }
 
